@@ -22,7 +22,7 @@ final class Checks {
         equal(call, got ? 1 : 0, 0);
     }
 
-    /** Exactly this class: what the machine throws by itself is often of a class below it. */
+    /** Exactly this class, and thrown by a statement of Bidwhistle: not by the machine nor by the library. */
     void throwing(String call, Class<? extends RuntimeException> due, Call made) {
         this.made++;
         try {
@@ -31,8 +31,15 @@ final class Checks {
         } catch (RuntimeException thrown) {
             if (thrown.getClass() != due) {
                 tell(call + " threw " + thrown.getClass().getSimpleName() + ", due is " + due.getSimpleName());
+            } else if (!isOfItsOwn(thrown)) {
+                tell(call + " did not throw by a statement of its own");
             }
         }
+    }
+
+    static boolean isOfItsOwn(RuntimeException thrown) {
+        StackTraceElement[] trace = thrown.getStackTrace();
+        return trace.length > 0 && trace[0].getClassName().startsWith("Bidwhistle");
     }
 
     void tell(String what) {

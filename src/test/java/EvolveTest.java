@@ -19,6 +19,7 @@ public final class EvolveTest {
         childThatIsAChildAgain();
         parentsByWorth();
         worthsOfBefore();
+        oneThatHasLeft();
         toTwenty();
         poolOfEight();
         CHECKS.end();
@@ -212,6 +213,20 @@ public final class EvolveTest {
         CHECKS.equal("parent(4, true)", game.parent(4, true), 3);
         CHECKS.equal("parent(4, false)", game.parent(4, false), 0);
         CHECKS.equal("best(FIRST) behind it", game.best(FIRST), 0);
+        CHECKS.equal("store() of the child", Checks.store(game, V, 5, PLUS), 4);
+    }
+
+    /** 0 had the least worth of all, but has left before: its worth from then must not count. */
+    private static void oneThatHasLeft() {
+        Bidwhistle game = poolOf(of(V, 9, TIMES), of(V, 0, PLUS), of(V, 5, MINUS), of(V, 2, OVER));
+        game.tell(20, 20);
+        CHECKS.equal("best(FIRST) with 0 in the pool", game.best(FIRST), 2);
+        game.leave(0);
+        // the worths are 0, 10 and 0 then: 3 leaves, and of 2 and 1 comes V 5 +
+        CHECKS.equal("evolve(FIRST) without 0", game.evolve(FIRST), 4);
+        CHECKS.isFalse("isIn(3)", game.isIn(3));
+        CHECKS.equal("parent(4, true)", game.parent(4, true), 2);
+        CHECKS.equal("parent(4, false)", game.parent(4, false), 1);
         CHECKS.equal("store() of the child", Checks.store(game, V, 5, PLUS), 4);
     }
 

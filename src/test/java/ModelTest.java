@@ -158,7 +158,7 @@ public final class ModelTest {
                 default: return "" + game.evolve(c[1]);
             }
         } catch (RuntimeException thrown) {
-            return "throws." + thrown.getClass().getSimpleName();
+            return (Checks.isOfItsOwn(thrown) ? "throws." : "falls.") + thrown.getClass().getSimpleName();
         }
     }
 
