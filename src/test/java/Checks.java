@@ -6,6 +6,16 @@ final class Checks {
 
     private int wrong = 0;
     private int made = 0;
+    /** What the checks that follow are about; stands in front of what is told. */
+    private String about = "";
+
+    void about(String what) {
+        about = what + ": ";
+    }
+
+    int made() {
+        return made;
+    }
 
     void equal(String call, long got, long due) {
         made++;
@@ -44,7 +54,7 @@ final class Checks {
 
     void tell(String what) {
         wrong++;
-        System.out.println(what);
+        System.out.println(about + what);
     }
 
     void end() {
