@@ -357,6 +357,8 @@ public final class PromisesTest {
                 CHECKS.equal("forbid(" + step + ")", game.forbid(step), 1);
                 CHECKS.isFalse("isIn of the one with it", game.isIn(its));
                 CHECKS.isTrue("isIn of the other one", game.isIn(other));
+                game.leave(other);
+                CHECKS.equal("join of the other one again", game.join(other), 1);
                 CHECKS.throwing("join of the one with it", STATE, () -> game.join(its));
             }
         });

@@ -3,6 +3,8 @@ final class Scenes {
     private static final int V = Bidwhistle.VALUE, PLUS = Bidwhistle.PLUS, MINUS = Bidwhistle.MINUS,
             TIMES = Bidwhistle.TIMES, GREATER = Bidwhistle.GREATER;
 
+    static final int CALLS_OF_FULL = 81;
+
     private Scenes() {
     }
 

@@ -34,7 +34,7 @@ final class Sentences {
         look("promise " + number + ", \"" + line + "\"", part);
     }
 
-    /** A sentence of the section "Terms", or a part of one. */
+    /** A sentence, or a part of one: of the section "Terms" mostly, or of what stands before it. */
     void term(String quote, Part part) {
         terms.add(quote);
         look("\"" + quote + "\"", part);
@@ -82,8 +82,9 @@ final class Sentences {
         String doc = document();
         if (!doc.isEmpty()) {
             String text = String.join(" ", section(doc, "## Terms"));
+            String whole = doc.replaceAll("\\s+", " ");
             for (String quote : terms) {
-                checks.isTrue("it does not say " + quote, text.contains(quote));
+                checks.isTrue("it does not say " + quote, whole.contains(quote));
             }
             for (String sentence : text.split("(?<=\\.)\\s+(?=[A-Z])")) {
                 boolean isOther = false;

@@ -31,6 +31,7 @@ public final class TermsTest {
         halves();
         joiningChild();
         refusedCalls();
+        lastCall();
         SENTENCES.endOfTerms("The calls build and store", "Auctions.", "Ahead of the calls");
     }
 
@@ -541,6 +542,23 @@ public final class TermsTest {
             for (int i = 0; i < dues.length; i++) {
                 CHECKS.equal("constant " + i, constants[i], dues[i]);
             }
+        });
+    }
+
+    private static void lastCall() {
+        SENTENCES.term("An object is used for at most 512 calls after it has been made", () -> {
+            Bidwhistle game = Scenes.full();
+            int best = game.best(SECOND);
+            int worth = game.worth(SECOND, best);
+            for (int i = Scenes.CALLS_OF_FULL + 2; i < 511; i++) {
+                game.best(i % 4);
+            }
+            CHECKS.equal("worth, call 512", game.worth(SECOND, best), worth);
+            Bidwhistle refusing = Checks.withNumbers(1);
+            for (int i = 2; i < 511; i++) {
+                CHECKS.throwing("evolve, call " + (i + 1), STATE, () -> refusing.evolve(FIRST));
+            }
+            CHECKS.equal("join, call 512", refusing.join(0), 1);
         });
     }
 }
