@@ -1,4 +1,4 @@
-/** The promises line by line, but for their "Throws" (RefusedTest has these): the limits inside which a call answers. */
+/** The promises line by line, but for their "Throws", which RefusedTest has: the limits inside which a call answers. */
 public final class PromisesTest {
     private static final int V = Bidwhistle.VALUE, PLUS = Bidwhistle.PLUS, MINUS = Bidwhistle.MINUS,
             TIMES = Bidwhistle.TIMES, OVER = Bidwhistle.OVER, LESSER = Bidwhistle.LESSER, GREATER = Bidwhistle.GREATER;
@@ -143,8 +143,8 @@ public final class PromisesTest {
             CHECKS.equal("bid(0, 9) with another draft", game.bid(0, 9), 6);
             CHECKS.equal("store() of a program with a forbidden step", forbidAndStore(), 0);
         });
-        SENTENCES.promise(4, "Returns the number of the strategy; that of the one which has the same program, if there is one.",
-                () -> {
+        SENTENCES.promise(4, "Returns the number of the strategy; that of the one which has the same program,"
+                + " if there is one.", () -> {
             Bidwhistle game = Checks.full();
             CHECKS.equal("store() of the first, with 20", Checks.store(game, 0), 0);
             CHECKS.equal("scrap() behind it", game.scrap(), 0);
@@ -635,7 +635,7 @@ public final class PromisesTest {
 
     /**
      * As many as can be, and the most that can be told: 0 to 7 bid this number, whatever the value; six times
-     * 99 and 99. 7 wins over all: 14 times each. 0 loses to all.
+     * 99 and 99, so 12 times each. 7 wins over all, 0 over none.
      */
     private static void greatestRounds(boolean isByValues) {
         Bidwhistle game = Checks.withNumbers(8);
@@ -645,7 +645,8 @@ public final class PromisesTest {
         for (int i = 0; i < 6; i++) {
             game.tell(99, 99);
         }
-        worthsAre(game, isByValues, 7, 12 * 7 * 92, 12 * (7 * 99 - 21), 12 * (7 * 99 - 3 - 4 - 4 - 5 - 5 - 6 - 6), 12 * 7 * 92);
+        int halvesWithSeven = 3 + 4 + 4 + 5 + 5 + 6 + 6;
+        worthsAre(game, isByValues, 7, 12 * 7 * 92, 12 * (7 * 99 - 21), 12 * (7 * 99 - halvesWithSeven), 12 * 7 * 92);
         worthsAre(game, isByValues, 0, 0, 0, 0, 0);
         worthsAre(game, isByValues, 1, 12 * 98, 12 * 99, 12 * 99, 12 * (98 - 6));
     }
@@ -680,7 +681,7 @@ public final class PromisesTest {
 
     /**
      * For 20, 30, 60 and 10 the strategies bid: 0: 22, 32, 62, 12; 1: 60, 90, 180, 30; 4: 40, 60, 120, 20.
-     * 1 with 20 wins over 32 and not over 60, which 4 ties but has the greater number: so over both.
+     * 1 with 20 wins over 32, and over the 60 of 4 by its lower number.
      */
     private static int[] worthsOfBusy() {
         int first = (20 - 60) * 2 + (30 - 90) * 2 + (60 - 180) * 2;

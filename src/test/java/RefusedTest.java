@@ -31,6 +31,7 @@ public final class RefusedTest {
     private static final Sentences SENTENCES = new Sentences(CHECKS);
 
     public static void main(String[] args) {
+        snapshot();
         step();
         store();
         bid();
@@ -45,6 +46,40 @@ public final class RefusedTest {
         best();
         evolve();
         SENTENCES.endOfPromises(line -> line.startsWith("Throws "));
+    }
+
+    /** A snapshot that would not see a change would let each refused call pass. */
+    private static void snapshot() {
+        CHECKS.about("the snapshot");
+        for (Making making : ALL_SCENES) {
+            CHECKS.isTrue("is the same twice", Snapshot.of(making.make()).equals(Snapshot.of(making.make())));
+        }
+        seen("step(V)", Scenes::busy, game -> game.step(V));
+        seen("scrap()", Scenes::busy, game -> game.scrap());
+        seen("scrap() of 7", Scenes::full, game -> game.scrap());
+        seen("another draft of two steps", Scenes::busy, game -> {
+            game.scrap();
+            Checks.draft(game, V, 5);
+        });
+        seen("store()", () -> withDraft(V), game -> game.store());
+        seen("join(5)", Scenes::busy, game -> game.join(5));
+        seen("leave(19)", Scenes::full, game -> game.leave(19));
+        seen("forbid(8)", Scenes::fresh, game -> game.forbid(8));
+        seen("allow(9)", Scenes::full, game -> game.allow(9));
+        seen("tell(0, 0)", Scenes::fresh, game -> game.tell(0, 0));
+        seen("forget()", Scenes::full, game -> game.forget());
+        seen("another last pair", Scenes::busy, game -> {
+            game.forget();
+            game.tell(20, 30);
+            game.tell(60, 11);
+        });
+        seen("evolve(FIRST)", Scenes::busy, game -> game.evolve(FIRST));
+    }
+
+    private static void seen(String change, Making making, Using using) {
+        Bidwhistle game = making.make();
+        using.on(game);
+        CHECKS.isFalse("does not see " + change, Snapshot.of(game).equals(Snapshot.of(making.make())));
     }
 
     private static void refused(String call, Class<? extends RuntimeException> due, Making making, Using using) {

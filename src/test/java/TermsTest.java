@@ -93,7 +93,8 @@ public final class TermsTest {
     }
 
     private static void steps() {
-        SENTENCES.term("each other step takes two numbers, the upper one being y, the one below it x, and puts one on it", () -> {
+        SENTENCES.term("each other step takes two numbers, the upper one being y, the one below it x, and puts one on"
+                + " it", () -> {
             CHECKS.equal("9 5 2 - -, of the upper two first", bidOf(0, 9, 5, 2, MINUS, MINUS), 6);
             CHECKS.equal("1 2 3 4 - - -", bidOf(0, 1, 2, 3, 4, MINUS, MINUS, MINUS), 0);
             CHECKS.equal("7 2 3 4 - - -", bidOf(0, 7, 2, 3, 4, MINUS, MINUS, MINUS), 4);
@@ -171,7 +172,8 @@ public final class TermsTest {
     }
 
     private static void rightPrograms() {
-        SENTENCES.term("A program is right if each step finds what it takes, and one number is left at the end", () -> {
+        SENTENCES.term("A program is right if each step finds what it takes, and one number is left at the"
+                + " end", () -> {
             CHECKS.isTrue("1", isRight(1));
             CHECKS.isTrue("1 2 +", isRight(1, 2, PLUS));
             CHECKS.isFalse("1 2", isRight(1, 2));
@@ -217,7 +219,8 @@ public final class TermsTest {
             Bidwhistle game = new Bidwhistle();
             for (int i = 0; i < 20; i++) {
                 CHECKS.equal("stored() before", game.stored(), i);
-                CHECKS.equal("store() of another one", i < 10 ? Checks.store(game, i) : Checks.store(game, V, i - 10, PLUS), i);
+                int number = i < 10 ? Checks.store(game, i) : Checks.store(game, V, i - 10, PLUS);
+                CHECKS.equal("store() of another one", number, i);
             }
             Checks.draft(game, V);
             CHECKS.throwing("store() of one more", STATE, () -> game.store());
@@ -350,7 +353,8 @@ public final class TermsTest {
     }
 
     private static void worths() {
-        SENTENCES.term("The worth of a strategy in an auction is the sum of its profits against each other strategy in the pool", () -> {
+        SENTENCES.term("The worth of a strategy in an auction is the sum of its profits against each other strategy"
+                + " in the pool", () -> {
             Bidwhistle game = bidders();
             game.tell(40, 40);
             game.join(0);
@@ -392,7 +396,8 @@ public final class TermsTest {
     }
 
     private static void evolving() {
-        SENTENCES.term("the strategy of the pool with the least worth leaves it, of several the one with the greatest number", () -> {
+        SENTENCES.term("the strategy of the pool with the least worth leaves it, of several the one with the greatest"
+                + " number", () -> {
             // for 20 and 20 these bid 180, 20 and 15: ALL makes them worth -640, -40 and -60
             Bidwhistle game = Scenes.poolOf(of(V, 9, TIMES), of(V), of(V, 5, MINUS));
             game.tell(20, 20);
@@ -442,8 +447,8 @@ public final class TermsTest {
             {4}, {V, 1, PLUS}, {V, 1, PLUS, 2, MINUS}, {V, 4, PLUS, 1, PLUS, 2, MINUS},
             {V, 1, 2, TIMES, PLUS}, {V, 5, 1, PLUS, TIMES, 2, MINUS}, {V, 5, PLUS, 1, 2, TIMES, PLUS},
         };
-        SENTENCES.term("The child's program is the first half of the steps of the first parent (of n steps (n + 1) / 2, rounded down),"
-                + " and behind that the last n / 2, rounded down, of the n steps of the second parent.", () -> {
+        SENTENCES.term("The child's program is the first half of the steps of the first parent (of n steps"
+                + " (n + 1) / 2, rounded down), and behind that the last n / 2, rounded down, of the n steps of the second parent.", () -> {
             for (int[] first : firsts) {
                 for (int[] second : seconds) {
                     halvesOf(first, second);
@@ -471,7 +476,8 @@ public final class TermsTest {
     }
 
     private static void joiningChild() {
-        SENTENCES.term("If it is right, has no forbidden step, and is not in the pool, the child joins the pool", () -> {
+        SENTENCES.term("If it is right, has no forbidden step, and is not in the pool, the child joins the"
+                + " pool", () -> {
             Bidwhistle wrong = Scenes.poolOf(of(5), of(V, 3, TIMES), of(8));
             CHECKS.equal("evolve to 5 *, which is not right", wrong.evolve(FIRST), NONE);
             Bidwhistle inIt = Scenes.poolOf(of(5), of(6), of(7));
@@ -504,7 +510,8 @@ public final class TermsTest {
 
     /** RefusedTest looks at each call for this; here is one of each kind. */
     private static void refusedCalls() {
-        SENTENCES.term("If several exceptions apply to a call, the one that its throws clause names first is thrown", () -> {
+        SENTENCES.term("If several exceptions apply to a call, the one that its throws clause names first is"
+                + " thrown", () -> {
             Bidwhistle full = Scenes.full();
             CHECKS.throwing("step(17) with 7", ARGUMENT, () -> full.step(17));
             CHECKS.throwing("bid(20, 100)", INDEX, () -> full.bid(20, 100));
